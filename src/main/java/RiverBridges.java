@@ -12,15 +12,15 @@ public final class RiverBridges {
     private static final int MOST_HIGH = 500;
     private static final int DAY_HAS_BEGUN = -500;
 
-    private final Tape tape;
     private final Reader reader;
+    private final Tape tape;
     private final River river;
     private Timetable spare;
     private int faultKind;
 
     public RiverBridges() {
-        tape = new Tape();
-        reader = new Reader(tape);
+        reader = new Reader();
+        tape = reader.tape;
         river = new River();
         spare = new Timetable();
         faultKind = 0;
@@ -67,13 +67,12 @@ public final class RiverBridges {
     }
 
     public int timetable() {
-        int answer = river.minute == 0 ? readTimetable() : DAY_HAS_BEGUN;
+        if (river.minute != 0) {
+            tape.size = 0;
+            return DAY_HAS_BEGUN;
+        }
+        boolean fine = reader.readInto(spare);
         tape.size = 0;
-        return answer;
-    }
-
-    private int readTimetable() {
-        boolean fine = reader.read(spare);
         faultKind = reader.faultKind;
         if (!fine) {
             return -1 - reader.faultPlace;
@@ -295,12 +294,15 @@ public final class RiverBridges {
             bridgesTold++;
         }
 
+        boolean isFull(int b) {
+            return spans[b] >= MOST_SPANS;
+        }
+
         void addSpan(int b, int from, int to) {
-            int n = spans[b];
-            if (n < MOST_SPANS) {
-                first[b][n] = from;
-                last[b][n] = to;
-                spans[b] = n + 1;
+            if (!isFull(b)) {
+                first[b][spans[b]] = from;
+                last[b][spans[b]] = to;
+                spans[b]++;
             }
         }
 
@@ -315,12 +317,13 @@ public final class RiverBridges {
         }
     }
 
-    /** Reads a tape as a TIMETABLE, TOKEN by TOKEN, up to the first FAULT. */
+    /** Reads its tape as a TIMETABLE, TOKEN by TOKEN, up to the first FAULT. */
     private static final class Reader {
         static final int MOST_TEXT = 400;
         static final int MOST_DIGITS = 4;
         static final int TRAIN_MARGIN = 2;
 
+        /** What a TOKEN is. */
         static final int NO_TOKEN = 0;
         static final int END = 1;
         static final int OVERLONG = 2;
@@ -332,12 +335,24 @@ public final class RiverBridges {
         static final int TRAIN = 8;
         static final int OTHER_WORD = 9;
 
+        /** What is due next in the text. */
+        static final int BRIDGE_OR_END = 0;
+        static final int BRIDGE_NUMBER = 1;
+        static final int SPAN_OR_SEMICOLON = 2;
+        static final int BAR_FROM = 3;
+        static final int BAR_TO = 4;
+        static final int BAR_UNTIL = 5;
+        static final int TRAIN_MINUTE = 6;
+
         static final int FAULT_NO_TOKEN = 1;
         static final int FAULT_MISPLACED = 2;
         static final int FAULT_NUMBER = 3;
         static final int FAULT_TOO_MANY = 4;
 
-        final Tape tape;
+        final Tape tape = new Tape();
+        int due = BRIDGE_OR_END;
+        int bridgeTold = 0;
+        int barFrom = 0;
         int place = 0;
         int token = END;
         int start = 0;
@@ -345,94 +360,94 @@ public final class RiverBridges {
         int faultKind = 0;
         int faultPlace = 0;
 
-        Reader(Tape tape) {
-            this.tape = tape;
-        }
-
         /** True: the tape is a TIMETABLE, and stands in the one given. False: the FAULT is kept. */
-        boolean read(Timetable into) {
+        boolean readInto(Timetable table) {
+            due = BRIDGE_OR_END;
             place = 0;
             faultKind = 0;
             faultPlace = 0;
-            into.clear();
-            advance();
-            // The ninth BRIDGE is read too: it has a FAULT for sure, but which one its TOKENS tell.
-            for (int i = 0; i <= MOST_BRIDGES && token == BRIDGE; i++) {
-                if (!readBridge(into)) {
-                    return false;
-                }
+            table.clear();
+            boolean goesOn = true;
+            // Each TOKEN has a byte at least, and the end is read too.
+            for (int i = 0; i <= MOST_TEXT && goesOn; i++) {
                 advance();
+                goesOn = takeToken(table);
             }
-            return token == END || failMisplaced();
+            return faultKind == 0;
         }
 
-        private boolean readBridge(Timetable into) {
-            if (!takeNumber(0, MOST_BRIDGES - 1)) {
-                return false;
+        /** False: the text ends here, or has its FAULT here. */
+        private boolean takeToken(Timetable table) {
+            if (token == NO_TOKEN) {
+                return fail(FAULT_NO_TOKEN);
             }
-            int b = value;
-            if (into.isTold[b]) {
-                return fail(FAULT_TOO_MANY);
+            switch (due) {
+                case BRIDGE_OR_END:
+                    return token != END && takeWord(BRIDGE, BRIDGE_NUMBER);
+                case BRIDGE_NUMBER:
+                    return isNumber(0, MOST_BRIDGES - 1) && takeBridgeNumber(table);
+                case SPAN_OR_SEMICOLON:
+                    return takeSpanOrSemicolon(table);
+                case BAR_FROM:
+                    return isNumber(0, DAY) && takeBarFrom();
+                case BAR_TO:
+                    return takeWord(TO, BAR_UNTIL);
+                case BAR_UNTIL:
+                    return isNumber(barFrom + 1, DAY) && takeSpan(table, barFrom, value - 1);
+                default:
+                    return isNumber(0, DAY) && takeSpan(table, value - TRAIN_MARGIN, value + TRAIN_MARGIN);
             }
-            into.tellOf(b);
-            advance();
-            for (int i = 0; i < Timetable.MOST_SPANS && beginsSpan(); i++) {
-                if (!readSpan(into, b)) {
-                    return false;
-                }
-                advance();
-            }
-            if (beginsSpan()) {
-                return fail(FAULT_TOO_MANY);
-            }
-            return token == SEMICOLON || failMisplaced();
         }
 
-        private boolean beginsSpan() {
-            return token == BAR || token == TRAIN;
-        }
-
-        private boolean readSpan(Timetable into, int b) {
-            return token == BAR ? readBar(into, b) : readTrain(into, b);
-        }
-
-        private boolean readBar(Timetable into, int b) {
-            if (!takeNumber(0, DAY)) {
-                return false;
+        private boolean takeWord(int wanted, int dueThen) {
+            if (token != wanted) {
+                return fail(FAULT_MISPLACED);
             }
-            int from = value;
-            advance();
-            if (token != TO) {
-                return failMisplaced();
-            }
-            if (!takeNumber(from + 1, DAY)) {
-                return false;
-            }
-            into.addSpan(b, from, value - 1);
+            due = dueThen;
             return true;
         }
 
-        private boolean readTrain(Timetable into, int b) {
-            if (!takeNumber(0, DAY)) {
-                return false;
-            }
-            into.addSpan(b, value - TRAIN_MARGIN, value + TRAIN_MARGIN);
-            return true;
-        }
-
-        private boolean takeNumber(int least, int most) {
-            advance();
+        private boolean isNumber(int least, int most) {
             if (token != NUMBER) {
-                return failMisplaced();
+                return fail(FAULT_MISPLACED);
             }
             return isWithin(value, least, most) || fail(FAULT_NUMBER);
         }
 
-        private boolean failMisplaced() {
-            return fail(token == NO_TOKEN ? FAULT_NO_TOKEN : FAULT_MISPLACED);
+        private boolean takeBridgeNumber(Timetable table) {
+            if (table.isTold[value]) {
+                return fail(FAULT_TOO_MANY);
+            }
+            table.tellOf(value);
+            bridgeTold = value;
+            due = SPAN_OR_SEMICOLON;
+            return true;
         }
 
-        /** Always false, so that a reading method can end with it. */
+        private boolean takeSpanOrSemicolon(Timetable table) {
+            if (token != BAR && token != TRAIN) {
+                return takeWord(SEMICOLON, BRIDGE_OR_END);
+            }
+            if (table.isFull(bridgeTold)) {
+                return fail(FAULT_TOO_MANY);
+            }
+            due = token == BAR ? BAR_FROM : TRAIN_MINUTE;
+            return true;
+        }
+
+        private boolean takeBarFrom() {
+            barFrom = value;
+            due = BAR_TO;
+            return true;
+        }
+
+        private boolean takeSpan(Timetable table, int first, int last) {
+            table.addSpan(bridgeTold, first, last);
+            due = SPAN_OR_SEMICOLON;
+            return true;
+        }
+
+        /** Always false, so that a taking method can end with it. */
         private boolean fail(int kind) {
             faultKind = kind;
             faultPlace = start;

@@ -196,6 +196,17 @@ public final class MinutesTest {
         due.is("none goes through meanwhile", x.through(7, 0), -1);
         x.go(1);
         due.is("through(7, 0)", x.through(7, 0), 34);
+        RiverBridges y = barred("bridge 0 bar 30 to 31;", 1, 1, 27);
+        y.ship(1, true, 27);
+        y.ship(1, true, 27);
+        y.go(29);
+        state(due, y, 0, 2, -1);
+        y.go(1);
+        state(due, y, 0, 3, 30);
+        y.go(1);
+        state(due, y, 0, 0, -1);
+        y.go(1);
+        state(due, y, 0, 1, 32);
     }
 
     private static RiverBridges bridges(int n) {

@@ -4,6 +4,7 @@ public final class TapeTest {
         Due due = new Due();
         sizes(due);
         order(due);
+        cut(due);
         due.end();
     }
 
@@ -56,5 +57,29 @@ public final class TapeTest {
         x.feed(0, 0, 0, 0, 0);
         x.end(25);
         due.is("tide(): a byte of 128 is not below 0", x.tide(), false);
+    }
+
+    /** Bytes behind the cut are no more of the tape, whatever they were. */
+    private static void cut(Due due) {
+        RiverBridges x = new RiverBridges();
+        x.feed(0, 0, 0, 0, 0);
+        x.feed(0, 0x00ffffff, -1, -1, -1);
+        x.end(25);
+        due.is("tide() with high bytes behind the cut", x.tide(), true);
+        Due.feedText(x, "bridgex");
+        x.end(6);
+        due.is("timetable() cut in a word", x.timetable(), -7);
+        Due.feedText(x, "bridge 77;");
+        x.end(8);
+        due.is("timetable() cut in a number", x.timetable(), -9);
+        Due.feedText(x, "bridge 7;?");
+        x.end(9);
+        due.is("timetable() cut behind a ;", x.timetable(), 1);
+        Due.feedText(x, "a".repeat(440));
+        due.is("timetable() of a full tape of letters", x.timetable(), -1);
+        due.is("fault()", x.fault(), 2);
+        Due.feedText(x, "1".repeat(440));
+        due.is("timetable() of a full tape of digits", x.timetable(), -1);
+        due.is("fault()", x.fault(), 1);
     }
 }

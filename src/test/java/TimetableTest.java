@@ -54,6 +54,15 @@ public final class TimetableTest {
         fault(due, "bridge 00000;", 7, 1);
         fault(due, "Bridge 0;", 0, 1);
         fault(due, "bridgE 0;", 0, 1);
+        fault(due, "bridgeA 0;", 0, 1);
+        fault(due, "bridgeZ 0;", 0, 1);
+        fault(due, "bridge@ 0;", 6, 1);
+        fault(due, "bridge[ 0;", 6, 1);
+        fault(due, "bridge` 0;", 6, 1);
+        fault(due, "bridge{ 0;", 6, 1);
+        fault(due, "bridge 0/", 8, 1);
+        fault(due, "bridge 0:", 8, 1);
+        fault(due, "zebra", 0, 2);
         fault(due, "bridge 0 bar 1 to 2X;", 18, 1);
         fault(due, "bridge -1;", 7, 1);
         fault(due, "bridge " + (char) 200 + ";", 7, 1);

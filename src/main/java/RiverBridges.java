@@ -746,6 +746,10 @@ public final class RiverBridges {
         }
 
         private void letShipsThrough(int b) {
+            // Most BRIDGES have no SHIP in most MINUTES: a day of forty SHIPS is much shorter so.
+            if (!bridges.get(b).isWanted()) {
+                return;
+            }
             for (int s = 0; s < ships.size(); s++) {
                 Ship ship = ships.get(s);
                 if (ship.isAt(b) && comesUnder(ship.high, b, minute)) {

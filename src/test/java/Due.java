@@ -6,12 +6,19 @@ import java.util.NoSuchElementException;
 final class Due {
     private int wrong = 0;
     private int asked = 0;
+    private String sentence = "";
+
+    /** The sentence of the document to which the answers behind this call are held; it must stand there. */
+    void sentence(String words) {
+        sentence = " (" + words + ")";
+        is("stands in the document", Document.says(words), true);
+    }
 
     void is(String call, int got, int want) {
         asked++;
         if (got != want) {
             wrong++;
-            System.out.println(call + " answered " + got + ", due is " + want);
+            System.out.println(call + " answered " + got + ", due is " + want + sentence);
         }
     }
 
@@ -51,6 +58,15 @@ final class Due {
 
     static int number(byte[] b, int at) {
         return (b[at] & 255) << 24 | (b[at + 1] & 255) << 16 | (b[at + 2] & 255) << 8 | (b[at + 3] & 255);
+    }
+
+    /** n BRIDGES, CLEAR 10, that OPEN and SHUT in a MINUTE each, with a WAY of 10, and no CARS. */
+    static RiverBridges river(int n) {
+        RiverBridges x = new RiverBridges();
+        for (int b = 0; b < n; b++) {
+            x.bridge(10, 1, 1, 10, 0, 1);
+        }
+        return x;
     }
 
     static int timetable(RiverBridges x, String text) {

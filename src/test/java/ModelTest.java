@@ -1,10 +1,16 @@
+import java.util.ArrayList;
+import java.util.Arrays;
+import java.util.Collections;
+import java.util.List;
 import java.util.NoSuchElementException;
 import java.util.Random;
 
 /** Runs of calls, the same in each run of the test, on the class and on the model: all answers must be alike. */
 public final class ModelTest {
-    private static final int RUNS = 1500;
-    private static final int CALLS = 250;
+    private static final int RUNS = 2500;
+    /** An object answers for 512 calls: the last of them ask how all stands. */
+    private static final int CALLS = 512;
+    private static final int MIXED_CALLS = 320;
 
     private final Due due = new Due();
     private final Random random;
@@ -25,8 +31,10 @@ public final class ModelTest {
     }
 
     private int wrong = 0;
+    private int calls = 0;
 
     private void alike(String call, int got, int want) {
+        calls++;
         if (got != want && wrong++ < 3) {
             due.is(call, got, want);
         }
@@ -34,7 +42,7 @@ public final class ModelTest {
 
     private int run() {
         build();
-        for (int i = 0; i < CALLS; i++) {
+        for (int i = 0; i < CALLS && calls < MIXED_CALLS; i++) {
             ask(random.nextInt(20));
         }
         askAll();
@@ -180,7 +188,7 @@ public final class ModelTest {
     private void feed(String text) {
         byte[] all = Model.bytes(text);
         for (int at = 0; at < all.length; at += 20) {
-            byte[] part = java.util.Arrays.copyOfRange(all, at, at + 20);
+            byte[] part = Arrays.copyOfRange(all, at, at + 20);
             feed(Due.number(part, 0), Due.number(part, 4), Due.number(part, 8), Due.number(part, 12), Due.number(part, 16));
         }
         end(all.length);
@@ -230,27 +238,29 @@ public final class ModelTest {
         }
     }
 
+    /** All that there is to ask, in an order of chance, as far as the calls reach. */
     private void askAll() {
-        for (int b = 0; b < 8; b++) {
-            for (int what = 0; what < 6; what++) {
-                about(b, what);
-            }
-        }
-        for (int s = 0; s < 40; s++) {
-            for (int what = 0; what < 4; what++) {
-                told(s, what);
-            }
-            for (int b = 0; b < 8; b++) {
-                through(s, b);
-            }
-        }
-        for (int k = 0; k < 4; k++) {
-            for (int what = 0; what < 3; what++) {
-                keeps(k, what);
-            }
-        }
+        List<Runnable> asks = new ArrayList<>();
         for (int what = 0; what < 7; what++) {
-            counts(what);
+            int w = what;
+            asks.add(() -> counts(w));
+            for (int i = 0; i < 8; i++) {
+                int b = i;
+                asks.add(() -> about(b, w));
+                asks.add(() -> keeps(b, w));
+            }
+        }
+        for (int i = 0; i < y.count(2); i++) {
+            int s = i;
+            for (int j = 0; j < 8; j++) {
+                int n = j;
+                asks.add(() -> told(s, n % 4));
+                asks.add(() -> through(s, n));
+            }
+        }
+        Collections.shuffle(asks, random);
+        for (int i = 0; i < asks.size() && calls < CALLS; i++) {
+            asks.get(i).run();
         }
     }
 

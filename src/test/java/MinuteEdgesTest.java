@@ -17,6 +17,7 @@ public final class MinuteEdgesTest {
         shutsAheadOfShutTimes(due);
         opensAwayFromShutTimes(due);
         keeperMustBeThere(due);
+        keeperSomewhere(due);
         keeperSetsOut(due);
         keeperStays(due);
         keeperNearest(due);
@@ -344,6 +345,33 @@ public final class MinuteEdgesTest {
         two.ship(11, true, 0);
         two.go(1);
         about(due, two, 0, 1, 1, 1, 0, 1);
+    }
+
+    private static void keeperSomewhere(Due due) {
+        due.sentence("KEEPERS 0 .. 3 are each at a BRIDGE, or on the way to one;");
+        RiverBridges x = Due.river(8);
+        x.legs(3);
+        for (int k = 0; k < 4; k++) {
+            x.keeper(7);
+        }
+        for (int s = 0; s < 8; s++) {
+            x.ship(11, true, 3 * s);
+        }
+        boolean[] seenOnTheWay = new boolean[4];
+        for (int m = 0; m < 35; m++) {
+            x.go(1);
+            for (int k = 0; k < 4; k++) {
+                int where = x.keeps(k, 0);
+                int goal = x.keeps(k, 1);
+                int comes = x.keeps(k, 2);
+                boolean there = where >= 0 && goal == -1 && comes == -1;
+                boolean onTheWay = where == -1 && goal >= 0 && comes > m;
+                due.is("KEEPER " + k + " behind MINUTE " + m, there != onTheWay, true);
+                seenOnTheWay[k] |= onTheWay;
+            }
+        }
+        due.is("the first of them set out", seenOnTheWay[0], true);
+        due.is("a fifth", x.keeps(4, 0), -1);
     }
 
     private static void keeperSetsOut(Due due) {
@@ -718,6 +746,7 @@ public final class MinuteEdgesTest {
     }
 
     private static void counts(Due due) {
+        due.sentence("0 MINUTE, 1 BRIDGES, 2 SHIPS, 3 KEEPERS,");
         due.sentence("6 bytes of the tape. NONE for another what.");
         RiverBridges x = Due.river(3);
         x.keeper(0);

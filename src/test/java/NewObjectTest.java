@@ -4,6 +4,7 @@ public final class NewObjectTest {
         Due due = new Due();
         newObject(due);
         counts(due);
+        lastCalls(due);
         due.end();
     }
 
@@ -36,6 +37,25 @@ public final class NewObjectTest {
         y.ship(500, false, 0);
         y.go(1);
         due.is("LEGS are 5 at first", y.keeps(0, 2), 5);
+    }
+
+    private static void lastCalls(Due due) {
+        due.sentence("An object is used for at most 512 calls after it has been made;");
+        RiverBridges x = new RiverBridges();
+        x.bridge(10, 2, 3, 1, 7, 9);
+        x.keeper(0);
+        x.ship(11, true, 100);
+        for (int i = 4; i <= 439; i += 4) {
+            due.is("call " + i + ": feed", x.feed(0x62726964, 0x67652030, 0x20747261, 0x696e2032, 0x303b0000), 20);
+            due.is("end", x.end(18), true);
+            due.is("timetable", x.timetable(), 1);
+            due.is("soonest", x.soonest(11, true, 100), 102);
+        }
+        for (int i = 440; i <= 510; i++) {
+            due.is("call " + i + ": go", x.go(2), 2 * (i - 439));
+        }
+        due.is("call 511: through", x.through(0, 0), 102);
+        due.is("call 512: about", x.about(0, 4), 1);
     }
 
     private static void counts(Due due) {

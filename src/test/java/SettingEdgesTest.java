@@ -193,6 +193,14 @@ public final class SettingEdgesTest {
     }
 
     private static void bridgesFull(Due due) {
+        due.sentence("BRIDGES 0 .. 7, from the sea up:");
+        RiverBridges all = new RiverBridges();
+        for (int b = 0; b < 8; b++) {
+            due.is("BRIDGE " + b, all.bridge(b == 7 ? 400 : 0, 1, 1, 1, 0, 1), b);
+        }
+        all.ship(400, false, 0);
+        all.go(1);
+        due.is("BRIDGE 7 is farthest from the sea", all.through(0, 7), 0);
         due.sentence("NONE: there are 8, a number is not as told, or MINUTE is not 0.");
         RiverBridges x = Due.river(7);
         due.is("the eighth", x.bridge(10, 1, 1, 1, 0, 1), 7);
@@ -395,11 +403,13 @@ public final class SettingEdgesTest {
     }
 
     private static void shipsFull(Due due) {
-        due.sentence("NONE: there are 40, no BRIDGE, a number is not as told, or it COMES ahead of MINUTE.");
+        due.sentence("One more SHIP: its number;");
         RiverBridges x = Due.river(1);
         for (int s = 0; s < 40; s++) {
             due.is("ship " + s, x.ship(0, s % 2 == 0, s), s);
+            due.is("a refused one has no number", x.ship(501, true, 0), -1);
         }
+        due.sentence("NONE: there are 40, no BRIDGE, a number is not as told, or it COMES ahead of MINUTE.");
         due.is("one too many", x.ship(0, true, 0), -1);
         due.is("count(2)", x.count(2), 40);
         due.noneSuch(x, 40, 0);

@@ -260,6 +260,7 @@ public final class TextEdgesTest {
     }
 
     private static void fourHundred(Due due) {
+        due.sentence("TIMETABLE is a text of at most 400 bytes:");
         due.sentence("400, if there are more and no FAULT is ahead:");
         fine(due, " ".repeat(400), 0);
         fine(due, " ".repeat(391) + "bridge 0;", 1);

@@ -753,7 +753,7 @@ public final class RiverBridges {
             for (int s = 0; s < ships.size(); s++) {
                 Ship ship = ships.get(s);
                 if (ship.isAt(b) && comesUnder(ship.high, b, minute)) {
-                    sendThrough(ship);
+                    sendThrough(ship, b);
                 }
             }
             if (bridges.get(b).state == Bridge.OPEN && bridges.get(b).isWanted()) {
@@ -773,12 +773,11 @@ public final class RiverBridges {
                 }
             }
             if (longest != NONE) {
-                sendThrough(ships.get(longest));
+                sendThrough(ships.get(longest), b);
             }
         }
 
-        private void sendThrough(Ship ship) {
-            int b = ship.target;
+        private void sendThrough(Ship ship, int b) {
             bridges.get(b).shipsAtIt--;
             ship.passed[b] = minute;
             int next = ship.up ? b + 1 : b - 1;
